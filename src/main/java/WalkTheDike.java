@@ -13,6 +13,8 @@ public final class WalkTheDike {
     private static final int MOST_COUNT = 9999, MOST_SEED = 99999;
     private static final int MOST_STEP = 12, MOST_BREAKS = 6;
     private static final long WHOLE = 1000000000L;
+    // More than any night can harm, even if each PIECE were found and broken in each hour.
+    private static final long BEYOND = 1000000000000000000L;
 
     // What of night().
     private static final int HOURS = 0, BREAKS = 1, WIND = 2, TRUST = 3, COMES = 4;
@@ -41,7 +43,7 @@ public final class WalkTheDike {
     private static final int THE_END = -1, NO_TOKEN = -2, NUMBER = 0;
     private static final int KEY_OF_RISK = 7, OR = 10, AND = 11, NOT = 12;
 
-    // Codes of a read TEXT: a NUMBER is itself, a NAME less than 0, below it what joins them.
+    // Codes of a read TEXT: a NUMBER is itself, a NAME is -1 .. -6, below stands what joins them.
     private static final int DO_NOT = -7, DO_NEGATE = -8;
     private static final int DO_OR = -9, DO_AND = -10, DO_LESS = -11, DO_EQUAL = -12;
     private static final int DO_PLUS = -13, DO_MINUS = -14, DO_TIMES = -15;
@@ -51,21 +53,21 @@ public final class WalkTheDike {
 
     private final Dike dike = new Dike();
     private final Men men = new Men();
-    private final Tape tape = new Tape();
     private final Texts texts = new Texts();
-    private final Reader reader = new Reader(tape, texts);
+    private final Tape tape = new Tape(texts);
     private final Chances chances = new Chances(dike, texts);
     private final Walk walk = new Walk(dike, men, chances);
     private final Reckoning reckoning = new Reckoning(dike, walk, chances);
     private final Drawing drawing = new Drawing(dike, walk, chances);
     private final Sheets sheets = new Sheets();
     private final Image kept = new Image();
+    private final Best best = new Best();
 
     public WalkTheDike() {
         for (int i = 0; i < FIRST_LAW.length(); i++) {
             tape.add(FIRST_LAW.charAt(i));
         }
-        reader.read();
+        tape.read();
         tape.size = 0;
     }
 
@@ -159,7 +161,7 @@ public final class WalkTheDike {
         if (texts.count >= MOST_TEXTS) {
             return FULL;
         }
-        int answer = reader.read();
+        int answer = tape.read();
         tape.size = 0;
         return answer;
     }
@@ -243,7 +245,7 @@ public final class WalkTheDike {
             return NOT_AS_TOLD;
         }
         walk.go();
-        return walk.place[h * MOST_MEN + m];
+        return walk.placeOf(m, h);
     }
 
     public int looked(int h) {
@@ -266,7 +268,7 @@ public final class WalkTheDike {
             return NOT_AS_TOLD;
         }
         walk.go();
-        return what == 0 ? hoursLookedAt(p) : longestUnseen(p);
+        return what == 0 ? hoursLookedAt(p) : longestNotLookedAt(p);
     }
 
     public int meet(int a, int b) {
@@ -317,17 +319,12 @@ public final class WalkTheDike {
 
     public int worst() {
         walk.go();
-        long most = 0;
-        int worst = -1;
+        best.begin(0);
         for (int p = 0; p < dike.pieces; p++) {
             reckoning.reckon(p, dike.night[HOURS]);
-            long broken = reckoning.told(1);
-            if (broken > most) {
-                most = broken;
-                worst = p;
-            }
+            best.offer(p, -reckoning.told(1));
         }
-        return worst;
+        return best.which;
     }
 
     // ---- one more
@@ -336,7 +333,12 @@ public final class WalkTheDike {
         if (!dike.has(p) || !dike.hasHour(h)) {
             return NO;
         }
-        return allHarm() - harmWithOneMore(p, h);
+        long now = allHarm();
+        walk.morePiece = p;
+        walk.moreHour = h;
+        long then = allHarm();
+        walk.morePiece = -1;
+        return now - then;
     }
 
     public long bestLook(int what) {
@@ -344,18 +346,16 @@ public final class WalkTheDike {
             return NO;
         }
         long now = allHarm();
-        long most = 0;
-        int best = -1;
+        best.begin(now);
         for (int h = 0; h < dike.night[HOURS]; h++) {
             for (int p = 0; p < dike.pieces; p++) {
-                long less = now - harmWithOneMore(p, h);
-                if (less > most) {
-                    most = less;
-                    best = 10 * h + p;
-                }
+                walk.morePiece = p;
+                walk.moreHour = h;
+                best.offer(10 * h + p, allHarm());
             }
         }
-        return what == 0 ? best : most;
+        walk.morePiece = -1;
+        return what == 0 ? best.which : now - best.least;
     }
 
     public int lamp(int p, int is) {
@@ -376,20 +376,15 @@ public final class WalkTheDike {
         }
         int[] row = what == 0 ? dike.lamp : dike.sacks;
         int most = what == 0 ? 1 : MOST_SACKS;
-        long least = allHarm();
-        int best = -1;
+        best.begin(allHarm());
         for (int p = 0; p < dike.pieces; p++) {
             if (row[p] < most) {
                 row[p]++;
-                long all = allHarm();
+                best.offer(p, allHarm());
                 row[p]--;
-                if (all < least) {
-                    least = all;
-                    best = p;
-                }
             }
         }
-        return best;
+        return best.which;
     }
 
     public long rounds(int m, int what) {
@@ -399,24 +394,19 @@ public final class WalkTheDike {
         int kind = men.kind[m];
         int post = men.post[m];
         int end = men.end[m];
-        long least = Long.MAX_VALUE;
-        int best = -1;
         men.kind[m] = EVEN;
+        best.begin(BEYOND);
         for (int a = 0; a < dike.pieces; a++) {
             for (int b = a; b < dike.pieces; b++) {
                 men.post[m] = a;
                 men.end[m] = b;
-                long all = allHarm();
-                if (all < least) {
-                    least = all;
-                    best = 10 * a + b;
-                }
+                best.offer(10 * a + b, allHarm());
             }
         }
         men.kind[m] = kind;
         men.post[m] = post;
         men.end[m] = end;
-        return what == 0 ? best : least;
+        return what == 0 ? best.which : best.least;
     }
 
     public int quick(int m) {
@@ -424,18 +414,13 @@ public final class WalkTheDike {
             return NO_SUCH;
         }
         int was = men.pace[m];
-        long least = Long.MAX_VALUE;
-        int best = 1;
+        best.begin(BEYOND);
         for (int pace = 1; pace <= MOST_PACE; pace++) {
             men.pace[m] = pace;
-            long all = allHarm();
-            if (all < least) {
-                least = all;
-                best = pace;
-            }
+            best.offer(pace, allHarm());
         }
         men.pace[m] = was;
-        return best;
+        return best.which;
     }
 
     public long next(int m, int h, int what) {
@@ -443,38 +428,28 @@ public final class WalkTheDike {
             return NO;
         }
         walk.go();
-        int from = walk.place[(h - 1) * MOST_MEN + m];
-        long least = Long.MAX_VALUE;
-        int best = -1;
+        int from = walk.placeOf(m, h - 1);
         walk.put = m;
         walk.putHour = h;
+        best.begin(BEYOND);
         for (int p = 0; p < dike.pieces; p++) {
             if (Math.abs(p - from) <= men.pace[m]) {
                 walk.putPiece = p;
-                long all = allHarm();
-                if (all < least) {
-                    least = all;
-                    best = p;
-                }
+                best.offer(p, allHarm());
             }
         }
         walk.put = -1;
-        return what == 0 ? best : least;
+        return what == 0 ? best.which : best.least;
     }
 
     public int spare() {
-        long least = Long.MAX_VALUE;
-        int best = -1;
+        best.begin(BEYOND);
         for (int m = 0; m < men.count; m++) {
             walk.blind = m;
-            long all = allHarm();
-            if (all < least) {
-                least = all;
-                best = m;
-            }
+            best.offer(m, allHarm());
         }
         walk.blind = -1;
-        return best;
+        return best.which;
     }
 
     // ---- told ways, sleepers
@@ -504,7 +479,7 @@ public final class WalkTheDike {
         }
         walk.go();
         for (int p = 0; p < dike.pieces; p++) {
-            if (longestUnseen(p) > n) {
+            if (longestNotLookedAt(p) > n) {
                 return 0;
             }
         }
@@ -566,18 +541,13 @@ public final class WalkTheDike {
         }
         int was = dike.called;
         dike.called = -1;
-        long least = allHarm();
-        int best = -1;
+        best.begin(allHarm());
         for (int h = 0; h < dike.night[HOURS]; h++) {
             dike.called = h;
-            long all = allHarm() + cost * WHOLE;
-            if (all < least) {
-                least = all;
-                best = h;
-            }
+            best.offer(h, allHarm() + cost * WHOLE);
         }
         dike.called = was;
-        return best;
+        return best.which;
     }
 
     public int trusts(int h, int cost) {
@@ -752,14 +722,6 @@ public final class WalkTheDike {
         return all;
     }
 
-    private long harmWithOneMore(int p, int h) {
-        walk.morePiece = p;
-        walk.moreHour = h;
-        long all = allHarm();
-        walk.morePiece = -1;
-        return all;
-    }
-
     private int hoursLookedAt(int p) {
         int hours = 0;
         for (int h = 0; h < dike.night[HOURS]; h++) {
@@ -768,7 +730,7 @@ public final class WalkTheDike {
         return hours;
     }
 
-    private int longestUnseen(int p) {
+    private int longestNotLookedAt(int p) {
         int longest = 0;
         int row = 0;
         for (int h = 0; h < dike.night[HOURS]; h++) {
@@ -889,23 +851,6 @@ public final class WalkTheDike {
         }
     }
 
-    private static final class Tape {
-        final int[] bytes = new int[MOST_TAPE];
-        int size = 0;
-
-        void add(int b) {
-            if (size < MOST_TAPE) {
-                bytes[size] = b;
-                size++;
-            }
-        }
-
-        /** The byte at a place; -1 where there is none. */
-        int at(int i) {
-            return i >= 0 && i < size && i < MOST_TAPE ? bytes[i] : -1;
-        }
-    }
-
     /** What was read of each TEXT, as codes in the order in which they are done. */
     private static final class Texts {
         final int[] code = new int[MOST_TEXTS * MOST_TAPE];
@@ -956,19 +901,31 @@ public final class WalkTheDike {
         }
     }
 
-    /** Reads THE TAPE into the codes of the next TEXT; each part tells whether it stood there. */
-    private static final class Reader {
-        private final Tape tape;
+    /** THE TAPE, read into the codes of the next TEXT; each part tells whether it stood there. */
+    private static final class Tape {
         private final Texts texts;
+        private final int[] bytes = new int[MOST_TAPE];
+        int size = 0;
         private int token;
         private int number;
         private int place;
         private int behind;
         private int done;
 
-        Reader(Tape tape, Texts texts) {
-            this.tape = tape;
+        Tape(Texts texts) {
             this.texts = texts;
+        }
+
+        void add(int b) {
+            if (size < MOST_TAPE) {
+                bytes[size] = b;
+                size++;
+            }
+        }
+
+        /** The byte at a place; -1 where there is none. */
+        private int at(int i) {
+            return i >= 0 && i < size && i < MOST_TAPE ? bytes[i] : -1;
         }
 
         /** The new TEXT's number, or what tells its FAULT. */
@@ -1095,13 +1052,13 @@ public final class WalkTheDike {
         /** Goes on to the next TOKEN: what it is, where it begins and what stands behind it. */
         private void advance() {
             place = behind;
-            while (place < tape.size && (tape.at(place) == ' ' || tape.at(place) == '\n')) {
+            while (place < size && (at(place) == ' ' || at(place) == '\n')) {
                 place++;
             }
             behind = place + 1;
-            int b = tape.at(place);
+            int b = at(place);
             if (isLetter(b)) {
-                while (behind < tape.size && isLetter(tape.at(behind))) {
+                while (behind < size && isLetter(at(behind))) {
                     behind++;
                 }
                 token = wordToken();
@@ -1113,9 +1070,9 @@ public final class WalkTheDike {
         }
 
         private int numberToken() {
-            number = tape.at(place) - '0';
-            while (behind < tape.size && isDigit(tape.at(behind))) {
-                number = number * 10 + tape.at(behind) - '0';
+            number = at(place) - '0';
+            while (behind < size && isDigit(at(behind))) {
+                number = number * 10 + at(behind) - '0';
                 behind++;
             }
             return behind - place > MOST_DIGITS ? NO_TOKEN : NUMBER;
@@ -1127,7 +1084,7 @@ public final class WalkTheDike {
             boolean same = true;
             for (int k = 0; k < WORDS.length(); k++) {
                 if (WORDS.charAt(k) != ' ') {
-                    same = same && i < behind && tape.at(i) == WORDS.charAt(k);
+                    same = same && i < behind && at(i) == WORDS.charAt(k);
                     i++;
                 } else if (same && i == behind) {
                     return word;
@@ -1173,15 +1130,15 @@ public final class WalkTheDike {
             age++;
         }
 
-        /** Asked only of a PIECE that is there, an hour 0 .. 11, a step 0 .. 12, a PACE 0 .. 3. */
         int ask(int thing, int p, int h, int step, int pace) {
+            if (thing < 0 || thing >= THINGS || !dike.has(p) || h < 0 || h >= MOST_HOURS
+                    || step < 0 || step > MOST_STEP || pace < 0 || pace > MOST_PACE) {
+                return 0;
+            }
             int is = thing == HARM ? Math.max(0, step - dike.sacks[p]) : step;
             int by = thing == SEEN ? pace : 0;
             int row = thing == SEEN ? THINGS + pace : thing;
             int i = ((row * MOST_PIECES + p) * MOST_HOURS + h) * (MOST_STEP + 1) + is;
-            if (i < 0 || i >= known.length) {
-                return 0;
-            }
             if (known[i] / KEPT != age) {
                 names[0] = dike.water[h];
                 names[1] = dike.old[p];
@@ -1202,7 +1159,7 @@ public final class WalkTheDike {
         private final Men men;
         private final Chances chances;
         /** By hours, then by MEN. */
-        final int[] place = new int[MOST_HOURS * MOST_MEN];
+        private final int[] place = new int[MOST_HOURS * MOST_MEN];
         /** By hours, then by PIECES: who looks there, as bits. */
         private final int[] lookers = new int[MOST_HOURS * MOST_PIECES];
         private final int[] since = new int[MOST_HOURS * MOST_PIECES];
@@ -1238,8 +1195,12 @@ public final class WalkTheDike {
             return since[h * MOST_PIECES + p];
         }
 
+        int placeOf(int m, int h) {
+            return place[h * MOST_MEN + m];
+        }
+
         boolean together(int a, int b, int h) {
-            return place[h * MOST_MEN + a] == place[h * MOST_MEN + b];
+            return placeOf(a, h) == placeOf(b, h);
         }
 
         void go() {
@@ -1273,7 +1234,7 @@ public final class WalkTheDike {
             if (h == 0) {
                 return men.kind[m] == PAIR ? men.end[m] : men.post[m];
             }
-            int from = place[(h - 1) * MOST_MEN + m];
+            int from = placeOf(m, h - 1);
             switch (men.kind[m]) {
                 case EVEN:
                 case PAIR:
@@ -1296,20 +1257,18 @@ public final class WalkTheDike {
 
         private int riskiest(int m, int h, int from) {
             int best = from;
-            int most = dread(from, h);
+            int most = -1;
             for (int p = 0; p < dike.pieces; p++) {
                 if (Math.abs(p - from) <= men.pace[m]) {
-                    int is = dread(p, h);
-                    // Of like ones the first stays the best: he himself where he is, else the least.
-                    best = is > most ? p : best;
-                    most = Math.max(is, most);
+                    int since = sinceOf(p, h);
+                    int is = since * chances.ask(RISK, p, h, since, 0);
+                    if (is > most || is == most && p == from) {
+                        best = p;
+                        most = is;
+                    }
                 }
             }
             return best;
-        }
-
-        private int dread(int p, int h) {
-            return sinceOf(p, h) * chances.ask(RISK, p, h, sinceOf(p, h), 0);
         }
     }
 
@@ -1340,7 +1299,7 @@ public final class WalkTheDike {
             found = 0;
             for (int h = 0; h < hours; h++) {
                 grow(p, h);
-                for (int who = 0; who < LOOKERS; who++) {
+                for (int who = 0; who < LOOKERS && walk.lookedAt(p, h); who++) {
                     if (walk.looksAt(who, p, h)) {
                         look(p, h, walk.paceOf(who));
                     }
@@ -1457,7 +1416,9 @@ public final class WalkTheDike {
         void renew(int s, int newSort, int n) {
             sort[s] = newSort;
             size[s] = n;
-            Arrays.fill(cells, s * MOST_CELLS, (s + 1) * MOST_CELLS, 0);
+            for (int i = 0; i < MOST_CELLS; i++) {
+                cells[s * MOST_CELLS + i] = 0;
+            }
         }
     }
 
@@ -1467,5 +1428,23 @@ public final class WalkTheDike {
         int men = 0;
         int law = 0;
         boolean is = false;
+    }
+
+    /** The least of what is offered, if less than a bound; of like ones the first. */
+    private static final class Best {
+        int which = -1;
+        long least = 0;
+
+        void begin(long bound) {
+            which = -1;
+            least = bound;
+        }
+
+        void offer(int one, long all) {
+            if (all < least) {
+                least = all;
+                which = one;
+            }
+        }
     }
 }

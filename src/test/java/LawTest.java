@@ -98,6 +98,12 @@ public final class LawTest {
         fault("1risk 1;", 0);
         badE("wate", 0);
         badE("waters", 0);
+        badE("waterz", 0);
+        badE("awater", 0);
+        badE("water{", 5);
+        badE("water`", 5);
+        badE("1234/", 4);
+        badE("1234:", 4);
         badE("1 + levee", 4);
         badE("12345", 0);
         badE("1 + 00001", 4);
@@ -201,6 +207,9 @@ public final class LawTest {
         value("not (0 and 0)", 1);
         value("5 and 3", 1);
         value("5 and 0", 0);
+        value("5 and 1", 1);
+        value("1 and 5", 1);
+        value("0 and 5", 0);
         value("0 or 0", 0);
         value("0 or 7", 1);
         value("1 or 1 and 0", 1);

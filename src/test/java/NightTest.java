@@ -90,6 +90,14 @@ public final class NightTest {
         x.call(-1);
         x.lamp(0, 1);
         states("and a lamp", x, 0, 0, 1000000000, 0);
+        WalkTheDike z = short3("risk 200;seen 50;harm 1;", 0);
+        z.night(0, 1);
+        z.night(4, 0);
+        z.lamp(0, 1);
+        z.call(0);
+        states("a lamp and the village", z, 0, 0, 950000000, 50000000);
+        z.man(0, 0, 10, 0);
+        states("and a man", z, 0, 0, 975000000, 25000000);
         // the cuts tell the order: 7 parts of 1000 seen by 33 of 100 and 77 of 100
         WalkTheDike y = short3("risk 1;seen pace*33;harm 1;", 0);
         y.man(0, 0, 10, 0);
@@ -140,6 +148,10 @@ public final class NightTest {
             x.set(p, 1, 0);
         }
         Due.is("of none any", x.worst(), -1);
+        WalkTheDike y = short3("risk 100;seen 100;harm 1;", 0, 0);
+        Due.is("by none", y.worst(), 0);
+        y.lamp(0, 1);
+        Due.is("by a lamp at the first", y.worst(), 1);
         Due.is("no pieces", new WalkTheDike().worst(), -1);
     }
 

@@ -81,6 +81,10 @@ public final class OneMoreTest {
         Due.is("the next one", y.bestLook(0), 11);
         Due.is("no pieces", new WalkTheDike().bestLook(0), -1);
         Due.is("what is asked changes nothing", y.run(0), 5 * 50000000L);
+        Due.is("how much", y.more(1, 2), 5 * 50000000L);
+        for (int h = 0; h < 4; h++) {
+            Due.is("what is asked changes nothing", y.looked(h), 0);
+        }
     }
 
     private static void lamp() {
@@ -205,7 +209,9 @@ public final class OneMoreTest {
         Due.is("no such man", x.next(-1, 1, 0), NO);
         Due.is("what", x.next(0, 1, 2), NO);
         Due.is("what", x.next(0, 1, -1), NO);
-        Due.is("he is where he was", x.where(0, 1), 2);
+        for (int h = 0; h < 4; h++) {
+            Due.is("he is where he was", x.where(0, h), 2);
+        }
         Due.is("from the hour ahead", x.next(0, 3, 0), 0);
         // an even one goes on from there, as he went
         WalkTheDike y = Due.withPieces(0, 0, 0, 0, 0);
@@ -270,7 +276,9 @@ public final class OneMoreTest {
         Due.is("the least", x.spare(), 2);
         x.man(0, 11, 10, 0);
         Due.is("two at one place", x.spare(), 1);
-        Due.is("what is asked changes nothing", x.looked(0), 7);
+        for (int h = 0; h < 3; h++) {
+            Due.is("what is asked changes nothing", x.looked(h), 7);
+        }
         Due.is("what is asked changes nothing", x.run(0), 0);
         // even if it harms more without him
         WalkTheDike y = short3("risk 100;seen 100;harm (step=3)*worth;", 5);

@@ -95,6 +95,10 @@ public final class ToldTest {
         x.man(0, 0, 10, 0);
         Due.is("in hour 1", x.check(0), 1);
         Due.is("in hour 2", x.check(3), 2);
+        WalkTheDike y = Due.withPieces(0, 0);
+        y.man(0, 0, 10, 0);
+        y.man(5, 0, 10, 0);
+        Due.is("by the first man", y.check(1), 1);
         Due.is("check(5)", x.check(5), -5);
         Due.is("check(-1)", x.check(-1), -5);
         x.night(0, 1);

@@ -10,6 +10,7 @@ public final class VillageTest {
         places();
         learn();
         drawnByHand();
+        brokenForGood();
         drawnRefused();
         image();
         Due.end();
@@ -112,6 +113,11 @@ public final class VillageTest {
         Due.is("what is asked changes nothing", x.count(3), 2);
         Due.is("what is asked changes nothing", x.call(-1), 0);
         Due.is("too late", x.trusts(2, 0), -1);
+        x.call(1);
+        Due.is("called in hour 1", x.trusts(0, 10), 1);
+        Due.is("called in hour 1", x.callWhen(0), 0);
+        Due.is("called in hour 1", x.village(0), 10000000000L);
+        Due.is("what is asked changes nothing", x.call(-1), 1);
         Due.is("no pieces", new WalkTheDike().trusts(7, 0), -1);
     }
 
@@ -165,6 +171,7 @@ public final class VillageTest {
         x.set(0, 0, 1);
         x.set(1, 0, 1);
         Due.row(x, 0, 0, 5, 0, 0);
+        Due.is("RISK of an old one", x.asks(0, 0, 0, 0, 0), 20);
         Due.is("one is no more old", x.learn(0), 1);
         Due.is("asks", x.asks(0, 0, 0, 0, 0), 0);
         Due.is("asks", x.asks(0, 1, 0, 0, 0), 20);
@@ -225,6 +232,25 @@ public final class VillageTest {
         }
     }
 
+    private static void brokenForGood() {
+        WalkTheDike x = Due.withPieces(0);
+        x.night(0, 12);
+        x.night(1, 2);
+        Due.law(x, "risk 200;seen 0;harm step;");
+        int broken = 0;
+        for (int seed = 0; seed < 200; seed++) {
+            int begins = 12;
+            for (int h = 11; h >= 0; h--) {
+                begins = lot(seed, h + 1) % 1000 < 200 ? h : begins;
+            }
+            int broke = begins < 11 ? 1 : 0;
+            broken += broke;
+            Due.is("broken once, seed " + seed, x.drawn(seed, 1), broke);
+            Due.is("harm once, seed " + seed, x.drawn(seed, 0), 2 * broke);
+        }
+        Due.is("many broke", broken > 150 && broken < 200 ? 1 : 0, 1);
+    }
+
     private static void drawnRefused() {
         WalkTheDike x = Due.withPieces(0);
         Due.is("drawn(-1, 0)", x.drawn(-1, 0), NO);
@@ -260,6 +286,8 @@ public final class VillageTest {
         Due.is("image()", x.image(), 2);
         for (int round = 0; round < 2; round++) {
             changeAll(x);
+            Due.is("the other law tells", x.asks(2, 0, 0, 1, 0), 1);
+            Due.is("the other law tells", x.asks(0, 0, 3, 1, 0), 37);
             Due.is("back()", x.back(), 3 + round);
             asInTheImage(x, nights);
         }
@@ -324,7 +352,8 @@ public final class VillageTest {
         Due.is("SACKS", x.set(1, 2, 0), 0);
         Due.is("CALLED", x.call(5), 5);
         Due.is("THE LAW", x.count(8), 1);
-        Due.is("the law tells", x.asks(2, 0, 0, 0, 0), 3);
+        Due.is("the law tells", x.asks(2, 0, 0, 1, 0), 3);
+        Due.is("the law tells", x.asks(0, 0, 3, 1, 0), 1);
         Due.is("PACE", x.manTold(0, 3), 1);
     }
 }
