@@ -67,4 +67,13 @@ final class Due {
         }
         return x;
     }
+
+    /** A night of three hours in which holes break at step 3, by a law. */
+    static WalkTheDike short3(String law, int... worths) {
+        WalkTheDike x = withPieces(worths);
+        x.night(0, 3);
+        x.night(1, 3);
+        law(x, law);
+        return x;
+    }
 }

@@ -13,14 +13,6 @@ public final class NightTest {
         Due.end();
     }
 
-    private static WalkTheDike short3(String law, int... worths) {
-        WalkTheDike x = Due.withPieces(worths);
-        x.night(0, 3);
-        x.night(1, 3);
-        Due.law(x, law);
-        return x;
-    }
-
     private static void run(String name, WalkTheDike x, long harm, long broken, long found) {
         Due.is(name + ": run(0)", x.run(0), harm);
         Due.is(name + ": run(1)", x.run(1), broken);
@@ -34,7 +26,7 @@ public final class NightTest {
     }
 
     private static void unseen() {
-        WalkTheDike x = short3("risk 100;seen 50;harm step;", 0);
+        WalkTheDike x = Due.short3("risk 100;seen 50;harm step;", 0);
         run("unseen", x, 300000000, 100000000, 0);
         states("unseen", x, 0, 0, 900000000, 100000000, 0, 0);
         states("unseen", x, 0, 1, 810000000, 90000000, 100000000, 0);
@@ -53,7 +45,7 @@ public final class NightTest {
     }
 
     private static void underALamp() {
-        WalkTheDike x = short3("risk 100;seen 50;harm step;", 0);
+        WalkTheDike x = Due.short3("risk 100;seen 50;harm step;", 0);
         x.lamp(0, 1);
         run("a lamp", x, 316375000, 25000000, 192625000);
         states("a lamp", x, 0, 0, 950000000, 50000000, 0, 0);
@@ -64,11 +56,11 @@ public final class NightTest {
     }
 
     private static void since() {
-        WalkTheDike x = short3("risk step*100;seen 100;harm 1;", 0);
+        WalkTheDike x = Due.short3("risk step*100;seen 100;harm 1;", 0);
         states("since grows", x, 0, 2, 900000000L - 180000000 - 720000000 / 5, 720000000 / 5, 180000000, 100000000);
         x.man(0, 0, 10, 0);
         run("since stays 1", x, 300000000, 0, 300000000);
-        WalkTheDike y = short3("risk step*100;seen 0;harm 1;", 0, 0);
+        WalkTheDike y = Due.short3("risk step*100;seen 0;harm 1;", 0, 0);
         y.man(1, 1, 10, 0);
         // of PIECE 1: SINCE 1 2 1
         states("looked at in hour 1", y, 1, 2, 648000000, 72000000, 180000000, 100000000);
@@ -76,7 +68,7 @@ public final class NightTest {
 
     private static void looksInTheirOrder() {
         // SEEN 50 of men by pace 2, 25 of pace 1, 100 of a lamp and the village; HARM by step and no hole elsewhere
-        WalkTheDike x = short3("risk 200;seen (pace=0)*100+pace*25;harm 1;", 0);
+        WalkTheDike x = Due.short3("risk 200;seen (pace=0)*100+pace*25;harm 1;", 0);
         x.night(0, 1);
         x.man(0, 0, 20, 0);
         x.man(0, 0, 10, 0);
@@ -90,7 +82,7 @@ public final class NightTest {
         x.call(-1);
         x.lamp(0, 1);
         states("and a lamp", x, 0, 0, 1000000000, 0);
-        WalkTheDike z = short3("risk 200;seen 50;harm 1;", 0);
+        WalkTheDike z = Due.short3("risk 200;seen 50;harm 1;", 0);
         z.night(0, 1);
         z.night(4, 0);
         z.lamp(0, 1);
@@ -99,14 +91,14 @@ public final class NightTest {
         z.man(0, 0, 10, 0);
         states("and a man", z, 0, 0, 975000000, 25000000);
         // the cuts tell the order: 7 parts of 1000 seen by 33 of 100 and 77 of 100
-        WalkTheDike y = short3("risk 1;seen pace*33;harm 1;", 0);
+        WalkTheDike y = Due.short3("risk 1;seen pace*33;harm 1;", 0);
         y.man(0, 0, 10, 0);
         y.man(0, 0, 20, 0);
         states("cut", y, 0, 0, 999000000 + 330000 + 442200, 227800);
     }
 
     private static void cut() {
-        WalkTheDike x = short3("risk 7;seen 33;harm worth;", 99);
+        WalkTheDike x = Due.short3("risk 7;seen 33;harm worth;", 99);
         x.night(0, 4);
         x.night(1, 6);
         states("cut", x, 0, 3, 979146657 - 6854026, 6854026, 6902343, 6951000, 7000000, 0, 0);
@@ -132,7 +124,7 @@ public final class NightTest {
     }
 
     private static void severalPieces() {
-        WalkTheDike x = short3("risk old*100+worth;seen 0;harm worth;", 10, 20, 20);
+        WalkTheDike x = Due.short3("risk old*100+worth;seen 0;harm worth;", 10, 20, 20);
         x.set(0, 0, 1);
         Due.is("harm(0, 1)", x.harm(0, 1), 110000000);
         Due.is("harm(1, 1)", x.harm(1, 1), 20000000);
@@ -148,7 +140,7 @@ public final class NightTest {
             x.set(p, 1, 0);
         }
         Due.is("of none any", x.worst(), -1);
-        WalkTheDike y = short3("risk 100;seen 100;harm 1;", 0, 0);
+        WalkTheDike y = Due.short3("risk 100;seen 100;harm 1;", 0, 0);
         Due.is("by none", y.worst(), 0);
         y.lamp(0, 1);
         Due.is("by a lamp at the first", y.worst(), 1);
@@ -156,7 +148,7 @@ public final class NightTest {
     }
 
     private static void refused() {
-        WalkTheDike x = short3("risk 100;seen 50;harm step;", 0);
+        WalkTheDike x = Due.short3("risk 100;seen 50;harm step;", 0);
         Due.is("run(3)", x.run(3), NO);
         Due.is("run(-1)", x.run(-1), NO);
         Due.is("harm(1, 0)", x.harm(1, 0), NO);

@@ -14,16 +14,8 @@ public final class OneMoreTest {
         Due.end();
     }
 
-    private static WalkTheDike short3(String law, int... worths) {
-        WalkTheDike x = Due.withPieces(worths);
-        x.night(0, 3);
-        x.night(1, 3);
-        Due.law(x, law);
-        return x;
-    }
-
     private static void more() {
-        WalkTheDike x = short3("risk 100;seen 50;harm step;", 0);
+        WalkTheDike x = Due.short3("risk 100;seen 50;harm step;", 0);
         Due.is("more(0, 0)", x.more(0, 0), 100000000);
         Due.is("more(0, 1)", x.more(0, 1), 5000000);
         Due.is("more(0, 2)", x.more(0, 2), -130500000);
@@ -34,15 +26,15 @@ public final class OneMoreTest {
         Due.is("more(1, 0)", x.more(1, 0), NO);
         Due.is("more(-1, 0)", x.more(-1, 0), NO);
         // by PACE 1, behind all others
-        WalkTheDike y = short3("risk 100;seen pace*50;harm step=3;", 0);
+        WalkTheDike y = Due.short3("risk 100;seen pace*50;harm step=3;", 0);
         Due.is("by pace 1", y.more(0, 0), 50000000);
-        WalkTheDike z = short3("risk 1;seen 33+(pace=1)*44;harm 1;", 0);
+        WalkTheDike z = Due.short3("risk 1;seen 33+(pace=1)*44;harm 1;", 0);
         z.night(0, 1);
         z.lamp(0, 1);
         // 1000000 less 330000; 77 of 100 of 670000
         Due.is("behind a lamp", z.more(0, 0), -515900);
         // it is LOOKED AT: SINCE is 1 in the next hour, and he who walks by RISK goes elsewhere
-        WalkTheDike w = short3("risk (step=2)*100;seen 0;harm step=3;", 0);
+        WalkTheDike w = Due.short3("risk (step=2)*100;seen 0;harm step=3;", 0);
         w.night(0, 4);
         Due.is("since 2 in hour 1", w.run(0), 100000000);
         Due.is("looked at in hour 0", w.more(0, 0), 100000000);
@@ -62,7 +54,7 @@ public final class OneMoreTest {
     }
 
     private static void bestLook() {
-        WalkTheDike x = short3("risk 100;seen 50;harm step;", 0);
+        WalkTheDike x = Due.short3("risk 100;seen 50;harm step;", 0);
         Due.is("bestLook(0)", x.bestLook(0), 0);
         Due.is("bestLook(1)", x.bestLook(1), 100000000);
         Due.is("bestLook(2)", x.bestLook(2), NO);
@@ -70,7 +62,7 @@ public final class OneMoreTest {
         Due.law(x, "risk 100;seen 50;harm 1;");
         Due.is("nowhere", x.bestLook(0), -1);
         Due.is("nowhere", x.bestLook(1), 0);
-        WalkTheDike y = short3("risk water*10;seen 100;harm (step=3)*worth;", 0, 5, 7, 7);
+        WalkTheDike y = Due.short3("risk water*10;seen 100;harm (step=3)*worth;", 0, 5, 7, 7);
         y.night(0, 4);
         y.water(1, 5);
         Due.is("first by hours, then by pieces", y.bestLook(0), 12);
@@ -88,7 +80,7 @@ public final class OneMoreTest {
     }
 
     private static void lamp() {
-        WalkTheDike x = short3("risk 100;seen 50;harm step;", 0, 0);
+        WalkTheDike x = Due.short3("risk 100;seen 50;harm step;", 0, 0);
         Due.is("lamp(2, 1)", x.lamp(2, 1), WalkTheDike.NONE);
         Due.is("lamp(-1, 9)", x.lamp(-1, 9), WalkTheDike.NONE);
         Due.is("lamp(0, 2)", x.lamp(0, 2), WalkTheDike.BAD);
@@ -103,7 +95,7 @@ public final class OneMoreTest {
     }
 
     private static void ready() {
-        WalkTheDike x = short3("risk 100;seen 50;harm (step=3)*worth+(step<3)*2;", 1, 9, 9);
+        WalkTheDike x = Due.short3("risk 100;seen 50;harm (step=3)*worth+(step<3)*2;", 1, 9, 9);
         Due.is("ready(2)", x.ready(2), WalkTheDike.BAD);
         Due.is("ready(-1)", x.ready(-1), WalkTheDike.BAD);
         Due.is("of like ones the first", x.ready(0), 1);
@@ -131,7 +123,7 @@ public final class OneMoreTest {
     }
 
     private static void rounds() {
-        WalkTheDike x = short3("risk 100;seen 100;harm (step=3)*worth;", 0, 0, 9, 0);
+        WalkTheDike x = Due.short3("risk 100;seen 100;harm (step=3)*worth;", 0, 0, 9, 0);
         x.man(0, 0, 10, 0);
         Due.is("rounds(1, 0)", x.rounds(1, 0), NO);
         Due.is("rounds(-1, 0)", x.rounds(-1, 0), NO);
@@ -172,7 +164,7 @@ public final class OneMoreTest {
     }
 
     private static void quick() {
-        WalkTheDike x = short3("risk 100;seen pace*10;harm step=3;", 0, 0);
+        WalkTheDike x = Due.short3("risk 100;seen pace*10;harm step=3;", 0, 0);
         x.man(0, 0, 20, 0);
         Due.is("quick(1)", x.quick(1), -5);
         Due.is("quick(-1)", x.quick(-1), -5);
@@ -266,7 +258,7 @@ public final class OneMoreTest {
     }
 
     private static void spare() {
-        WalkTheDike x = short3("risk 100;seen 100;harm (step=3)*worth;", 5, 9, 5);
+        WalkTheDike x = Due.short3("risk 100;seen 100;harm (step=3)*worth;", 5, 9, 5);
         Due.is("no men", x.spare(), -1);
         x.man(0, 0, 10, 0);
         x.man(0, 11, 10, 0);
@@ -281,7 +273,7 @@ public final class OneMoreTest {
         }
         Due.is("what is asked changes nothing", x.run(0), 0);
         // even if it harms more without him
-        WalkTheDike y = short3("risk 100;seen 100;harm (step=3)*worth;", 5);
+        WalkTheDike y = Due.short3("risk 100;seen 100;harm (step=3)*worth;", 5);
         y.man(0, 0, 10, 0);
         Due.is("the only one", y.spare(), 0);
     }

@@ -2,6 +2,13 @@
 public final class VillageTest {
     private static final long NO = WalkTheDike.NO;
 
+    /** The village comes at once. */
+    private static WalkTheDike short3(String law, int... worths) {
+        WalkTheDike x = Due.short3(law, worths);
+        x.night(4, 0);
+        return x;
+    }
+
     public static void main(String[] args) {
         call();
         village();
@@ -14,15 +21,6 @@ public final class VillageTest {
         drawnRefused();
         image();
         Due.end();
-    }
-
-    private static WalkTheDike short3(String law, int... worths) {
-        WalkTheDike x = Due.withPieces(worths);
-        x.night(0, 3);
-        x.night(1, 3);
-        x.night(4, 0);
-        Due.law(x, law);
-        return x;
     }
 
     private static void call() {
