@@ -2,8 +2,18 @@
 final class Due {
     private static int asked = 0;
     private static int wrong = 0;
+    private static String sentence = "";
 
     private Due() {
+    }
+
+    /** Of what sentence of the document the next answers are. */
+    static void of(String words) {
+        sentence = words;
+    }
+
+    static int asked() {
+        return asked;
     }
 
     static void is(String call, long got, long want) {
@@ -11,7 +21,7 @@ final class Due {
         if (got != want) {
             wrong++;
             if (wrong <= 40) {
-                System.out.println(call + " answered " + got + ", due is " + want);
+                System.out.println(sentence + call + " answered " + got + ", due is " + want);
             }
         }
     }
