@@ -109,6 +109,34 @@ public final class EdgesOfHarmTest extends Edges {
         is(new WalkTheDike(), "worst()", -1);
         WalkTheDike y = night(2, 2, "risk worth;seen 0;harm 1;", 0, 0, 0, 0, 0, 0, 0, 1);
         is(y, "worst()", 7);
+        // by the looks: one that is looked at has none; of those found but for 1 PART that breaks it is 1 PART
+        WalkTheDike v = night(2, 2, "risk (water=1);seen 99;harm 1;", 0, 0, 0);
+        v.water(0, 1);
+        is(v, "worst()", 0);
+        v.lamp(0, 1);
+        is(v, "worst()", 1);
+        v.lamp(1, 1);
+        is(v, "worst()", 2);
+        v.night(0, 1);
+        v.night(3, 3);
+        v.night(4, 0);
+        v.call(0);
+        v.lamp(2, 1);
+        is(v, "worst()", -1);
+        v.night(0, 2);
+        // 1000000 by three looks: 10000, 100, 1
+        v.man(0, 11, 10, 0);
+        is(v, "harm(1, 1)", 1);
+        is(v, "harm(2, 1)", 100);
+        is(v, "worst()", 0);
+        v.man(0, 0, 10, 0);
+        v.man(0, 22, 10, 0);
+        is(v, "worst()", 0);
+        is(v, "harm(0, 1)", 1);
+        v.man(0, 0, 10, 0);
+        is(v, "harm(0, 1)", 1);
+        Due.law(v, "risk (water=1);seen 100;harm 1;");
+        is(v, "worst()", -1);
         // by the broken ones, not by their HARM
         WalkTheDike z = night(2, 2, "risk 100-worth;seen 0;harm worth;", 0, 99);
         is(z, "worst()", 0);
@@ -249,8 +277,15 @@ public final class EdgesOfHarmTest extends Edges {
         x.lamp(1, 0);
         x.set(1, 2, 3);
         row(x, "ready(%d)", 2, 2, BAD);
+        // a LAMP is worth more at the one, SACKS at the other: what 0 WORTH 9, what 1 OLD
+        WalkTheDike z = night(2, 2, "risk 100;seen 100-old*100;harm (step=2)*(worth+old*5);", 9, 5, 3);
+        z.set(2, 0, 1);
+        z.set(1, 0, 1);
+        row(z, "ready(%d)", 0, 1, BAD);
         WalkTheDike y = night(4, 4, "risk water*100;seen 0;harm step;", 0);
+        row(y, "ready(%d)", -1, -1, BAD);
         y.water(0, 1);
+        row(y, "ready(%d)", -1, 0, BAD);
         // HARM of step 4 less SACKS: 4, 3, 2, 1
         for (int sacks = 0; sacks <= 3; sacks++) {
             y.set(0, 2, sacks);
@@ -398,6 +433,10 @@ public final class EdgesOfHarmTest extends Edges {
                 is(x, "manTold(0, 3)", pace);
             }
         }
+        // none beyond 1 and 3 would be better
+        WalkTheDike w = night(2, 2, "risk 100;seen (3<pace)*100+(pace<1)*100;harm step=2;", 0);
+        w.man(0, 0, 30, 0);
+        is(w, "quick(0)", 1);
         // by where he comes: in hour 1 at 3
         WalkTheDike y = atOnce(3, 0, 0, 0, 9);
         y.water(1, 1);
@@ -451,6 +490,13 @@ public final class EdgesOfHarmTest extends Edges {
             z.set(7, 1, 99);
             is(z, "next(1, 1, 0)", 7);
         }
+        // there is none beyond the dike's ends, though each look harms
+        WalkTheDike v = night(3, 2, "risk (water=1)*100;seen 100;harm step<2;", 0, 0, 0, 0, 0, 0, 0, 0);
+        v.water(1, 1);
+        v.man(0, 0, 30, 0);
+        v.man(0, 77, 30, 0);
+        row(v, "next(0, 1, %d)", 0, 200000000, NO);
+        row(v, "next(1, 1, %d)", 0 + 4, 200000000, NO);
         // from where he is in the hour ahead, not from where he would be
         WalkTheDike w = atOnce(4, 0, 0, 0, 0, 9);
         w.water(2, 1);

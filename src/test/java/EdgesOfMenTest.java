@@ -139,6 +139,16 @@ public final class EdgesOfMenTest extends Edges {
         is(x, "manTold(0, 16)", 4);
         x.pace(0, 3);
         is(x, "manTold(0, 3)", 3);
+        // each of five has a row of his own
+        WalkTheDike y = eight();
+        for (int m = 0; m < 5; m++) {
+            Due.row(y, 0, m, m, m + 1, m + 1, m + 2, m + 2, m + 3, m + 3, 0, 1, 2, m);
+            Due.is("a told one", y.man(3, 11 * m, 30, 0), m);
+        }
+        for (int m = 0; m < 5; m++) {
+            row(y, "manTold(" + m + ", %d)", 3, m, m, 3, 0, m, m, m + 1, m + 1, m + 2, m + 2, m + 3, m + 3, 0, 1, 2, m, -7);
+            way(y, m, m, m, m + 1, m + 1, m + 2, m + 2, m + 3, m + 3);
+        }
     }
 
     @Says(of = 13, value = "(0 of other KINDS).")

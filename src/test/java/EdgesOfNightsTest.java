@@ -389,5 +389,12 @@ public final class EdgesOfNightsTest extends Edges {
         // 1, 2 in hour 0; PIECE 0 breaks in hour 1, 3 of PIECE 1
         Due.is("the third", z.drawn(seedOf(1, -1, 1, 0), 1), 2);
         Due.is("not the fourth", z.drawn(seedOf(1, -1, 0, 1), 1), 1);
+        // nor in the hours behind that: 4 of PIECE 1 in hour 2
+        z.night(0, 4);
+        z.water(1, 0);
+        z.water(2, 2);
+        Due.is("the fourth", z.drawn(seedOf(1, -1, -1, 1, 0), 1), 2);
+        Due.is("not the fifth", z.drawn(seedOf(1, -1, -1, 0, 1), 1), 1);
+        Due.is("none is found", z.drawn(seedOf(1, -1, -1, 1, 0), 2), 0);
     }
 }

@@ -121,6 +121,14 @@ public final class EdgesOfPiecesTest extends Edges {
             is(x, night + most[what] + ")", most[what]);
         }
         row(x, "count(%d)", 12, 6, 9, 8, 12);
+        // WIND, by a law that tells it
+        WalkTheDike y = night(1, 2, "risk wind*10;seen 0;harm 0;", 0);
+        is(y, "asks(0, 0, 0, 0, 0)", 0);
+        is(y, "night(2, 9)", 0);
+        is(y, "asks(0, 0, 0, 0, 0)", 90);
+        is(y, "state(0, 0, 1)", 90000000);
+        is(y, "night(2, 1)", 9);
+        is(y, "asks(0, 0, 0, 0, 0)", 10);
     }
 
     @Says(of = 4, value = "NONE: what;")

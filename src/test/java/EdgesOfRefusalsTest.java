@@ -213,6 +213,15 @@ public final class EdgesOfRefusalsTest extends Edges {
         refused(SOME, STATE, "back()");
     }
 
+    private static String toldOf(WalkTheDike x) {
+        StringBuilder told = new StringBuilder();
+        for (String call : new String[] {"run(0)", "run(1)", "run(2)", "drawn(3, 0)", "drawn(4, 0)", "drawn(5, 0)", "asks(0, 0, 2, 1, 0)",
+            "asks(2, 7, 2, 3, 0)", "bestLook(1)", "worst()", "village(2)", "looked(6)", "where(0, 3)"}) {
+            told.append(Call.on(x, call)).append(' ');
+        }
+        return told.toString();
+    }
+
     @Says(of = 0, value = "What is asked changes nothing, but where it is told.")
     static void askedChangesNothing() {
         for (String call : new String[] {"count(9)", "asks(2, 7, 11, 12, 3)", "manTold(1, 16)", "where(2, 11)", "looked(11)",
@@ -227,6 +236,24 @@ public final class EdgesOfRefusalsTest extends Edges {
             long answer = Call.on(x, call);
             Due.is(call + " asked again", Call.on(x, call), answer);
             Due.is(call + " is refused", answer == NO || answer < -1 && !call.startsWith("more") ? 1 : 0, 0);
+        }
+        // what has been asked is asked anew behind a change
+        for (String change : new String[] {"set(0, 0, 1)", "set(7, 1, 3)", "set(7, 2, 0)", "night(0, 7)", "night(1, 2)", "night(2, 0)",
+            "night(3, 8)", "night(4, 0)", "water(2, 9)", "force(2)", "force(0)", "pace(0, 1)", "pace(1, 3)", "lamp(5, 0)", "lamp(7, 1)",
+            "call(-1)", "call(0)", "image()", "back()", "learn(1)"}) {
+            WalkTheDike asked = Worlds.full();
+            WalkTheDike not = Worlds.full();
+            asked.force(1);
+            not.force(1);
+            String was = toldOf(asked);
+            if (change.startsWith("learn")) {
+                Due.row(asked, 1, 0, 0, 9, 0, 0, 0, 0, 0);
+                Due.row(not, 1, 0, 0, 9, 0, 0, 0, 0, 0);
+            }
+            Due.is(change, Call.on(asked, change), Call.on(not, change));
+            String is = toldOf(not);
+            Due.is(change + " behind other questions; alike", toldOf(asked).equals(is) ? 1 : 0, 1);
+            Due.is(change + " matters", is.equals(was) ? 0 : 1, change.equals("image()") ? 0 : 1);
         }
         WalkTheDike y = Worlds.full();
         is(y, "places(0)", BAD);

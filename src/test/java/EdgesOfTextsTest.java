@@ -306,6 +306,11 @@ public final class EdgesOfTextsTest extends Edges {
         value("2 = 2", 1);
         value("2 = 3", 0);
         value("- 2 = 2", 0);
+        // just 0, not less
+        for (String e : new String[] {"0 or 0", "0 and 0", "0 and 1", "1 and 0", "not 1", "2 < 1", "1 < 1", "1 = 2"}) {
+            value("(" + e + ") + 1", 1);
+            value("1 - (" + e + ")", 1);
+        }
         value("(3 < 4) * 7 + (3 = 3) * 7 + (not 0) * 7 + (1 or 1) * 7 + (3 and 3) * 7", 35);
     }
 

@@ -114,6 +114,14 @@ public final class EdgesOfToldTest extends Edges {
         row(x, "sure(%d)", 0, 1, 1, 1, 1, 1, 1, 1, 1, 1, 1, 1, 1, BAD);
         x.night(0, 1);
         row(x, "sure(%d)", 0, 1, 1);
+        // of the first PIECE alone, of the last one alone
+        for (int p = 0; p < 8; p += 7) {
+            WalkTheDike y = eight();
+            for (int other = 0; other < 8; other++) {
+                y.lamp(other, other == p ? 0 : 1);
+            }
+            row(y, "sure(%d)", 0, 0, 0, 0, 0, 0, 0, 0, 1, 1, 1, 1, 1, BAD);
+        }
         row(new WalkTheDike(), "sure(%d)", 1, 1, 1, 1, 1, 1, 1, 1, 1, 1, 1, 1, 1, BAD);
     }
 
