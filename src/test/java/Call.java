@@ -3,7 +3,7 @@ import java.lang.reflect.Method;
 import java.util.HashMap;
 import java.util.Map;
 
-/** Calls by their texts, as "piece(0, 5)"; MIN and MAX are the least int and the most. */
+/** Calls by their texts, as "piece(0, 5)"; MIN and MAX are the least int and the most, 0x3fL is a number, too. */
 final class Call {
     private static final Map<String, Method> FACE = new HashMap<>();
 
@@ -41,6 +41,7 @@ final class Call {
     }
 
     private static long number(String text) {
-        return text.equals("MIN") ? Integer.MIN_VALUE : text.equals("MAX") ? Integer.MAX_VALUE : Long.parseLong(text);
+        return text.equals("MIN") ? Integer.MIN_VALUE : text.equals("MAX") ? Integer.MAX_VALUE 
+            : Long.decode(text.endsWith("L") ? text.substring(0, text.length() - 1) : text);
     }
 }

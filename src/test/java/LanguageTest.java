@@ -25,6 +25,7 @@ public final class LanguageTest {
         libraryUsed(source);
         nested();
         methods(bare(source));
+        made(bare(source));
         Due.end();
     }
 
@@ -156,6 +157,19 @@ public final class LanguageTest {
             }
         }
         isTrue("methods seen: " + seen, seen > 100);
+    }
+
+    /** All rows are made with the object, so no call makes any: the room stays small however many calls there are. */
+    private static void made(String source) {
+        int seen = 0;
+        for (String line : source.split("\n")) {
+            if (Pattern.compile("\\bnew\\b|\\bclone\\b|StringBuilder|ArrayList").matcher(line).find()) {
+                seen++;
+                isTrue("is made with the object: " + line.trim(),
+                    line.matches("( {4}| {8})(private )?final [A-Za-z]+(\\[\\])? \\w+ = new [^;{]*;"));
+            }
+        }
+        isTrue("lines that make something: " + seen, seen > 30);
     }
 
     private static int count(String source, String what) {
